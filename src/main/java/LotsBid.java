@@ -842,9 +842,10 @@ public final class LotsBid {
 
         /**
          * Tries all years with the one way given, which has to be the joint one: years that are at
-         * rest with any way are so with every way by which most is wanted. (At such years no way
-         * brings lads and masters together more than this one does, and one by which as much is
-         * wanted brings as much, so each lad has his best in it, and no room of any years is left.)
+         * rest with any way are so with every way by which most is wanted. For no way has more wanted
+         * than the lads' best at these years and the years of all room together; the way at rest has
+         * as much, so the joint one has, too, and that only if each lad has his best in it and no
+         * room of more than 0 years is left.
          */
         void search(Plan plan, int[] way, boolean greatest) {
             found = false;

@@ -38,6 +38,7 @@ public final class PromiseTest {
         year();
         keepAndBack();
         count();
+        fullHouse();
         CHECK.close();
     }
 
@@ -688,5 +689,28 @@ public final class PromiseTest {
         due("26 8", x.count(8), BAD);
         due("26 far", x.count(FAR), BAD);
         due("26 far below", x.count(FAR_BELOW), BAD);
+    }
+
+    /** As many masters and lads as there can be: each has the one he wants. */
+    private static void fullHouse() {
+        LotsBid x = Check.laid("m2;m2;m1;l9,0;l9,0;l9,0;l9,0;l9,0;w0,0,5;w1,0,5;w2,1,6;w3,1,6;w4,2,7;");
+        counts("full", x, 3, 5, 0, 1);
+        due("full years", x.all(0), 5);
+        due("full gains", x.all(1), 24);
+        due("full lads", x.all(2), 5);
+        due("full lads of 1", x.master(1, 1), 12);
+        due("full last lad", x.master(2, 1), 16);
+        due("full joint", x.joint(-1), 29);
+        due("full joint, last", x.joint(4), 2);
+        due("full pay", x.pay(4), 0);
+        due("full least", x.rest(-1, false), 0);
+        due("full greatest", x.rest(-1, true), 18);
+        due("full cousins", x.cousins(), 63);
+        x.seen(2, 0);
+        due("full cousin", x.cousins(), 16);
+        due("full lie", x.lie(4, 0), 1);
+        due("full game", x.game(3, 4, 0), 100);
+        due("full span", x.span(4, 2, 0), 1);
+        due("full nobody's span", x.span(4, 0, 1), 0);
     }
 }
