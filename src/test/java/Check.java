@@ -30,16 +30,27 @@ final class Check {
         }
     }
 
+    /** Eight bytes a call, for an object has 512 calls at most. */
     static void writeText(LotsBid bid, String text) {
-        for (int k = 0; k < text.length(); k++) {
-            bid.write(1, text.charAt(k));
+        for (int at = 0; at < text.length(); at += 8) {
+            int n = Math.min(8, text.length() - at);
+            long v = 0;
+            for (int k = at; k < at + n; k++) {
+                v = v << 8 | text.charAt(k);
+            }
+            bid.write(n, v);
         }
+    }
+
+    static LotsBid written(String text) {
+        LotsBid bid = new LotsBid();
+        writeText(bid, text);
+        return bid;
     }
 
     /** An object with the text laid. */
     static LotsBid laid(String text) {
-        LotsBid bid = new LotsBid();
-        writeText(bid, text);
+        LotsBid bid = written(text);
         if (bid.lay() < 1) {
             throw new IllegalStateException("not laid: " + text);
         }

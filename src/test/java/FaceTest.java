@@ -81,25 +81,30 @@ public final class FaceTest {
     }
 
     private static void numbers() {
-        for (String text : new String[] {"", "m1;l1,0;", "m3;m3;m3;l10,1;l10,2;l10,3;l10,0;l1,0;w0,2,10;w4,2,10;w1,1,4;"}) {
-            LotsBid x = new LotsBid();
-            Check.writeText(x, text);
-            x.lay();
+        for (String text : new String[] {"", "m1;l1,0;",
+            "m3;m3;m3;l10,1;l10,2;l10,3;l10,0;l1,0;w0,2,10;w4,2,10;w1,1,4;"}) {
             for (int a : NUMBERS) {
-                one(x, a);
+                one(fresh(text), a);
                 for (int b : NUMBERS) {
+                    LotsBid x = fresh(text);
                     two(x, a, b);
                     for (int c : NUMBERS) {
                         x.wants(a, b, c);
                         x.span(a, b, c);
                         x.game(a, b, c);
                     }
+                    for (int what = 0; what <= 7; what++) {
+                        CHECK.holds("count(" + what + ") is told", x.count(what) >= 0);
+                    }
                 }
             }
-            for (int what = 0; what <= 7; what++) {
-                CHECK.holds("count(" + what + ") is told", x.count(what) >= 0);
-            }
         }
+    }
+
+    private static LotsBid fresh(String text) {
+        LotsBid x = Check.written(text);
+        x.lay();
+        return x;
     }
 
     private static void one(LotsBid x, int a) {

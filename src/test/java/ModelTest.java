@@ -4,7 +4,8 @@ import java.util.Random;
 public final class ModelTest {
     private static final Check CHECK = new Check("ModelTest");
     private static final int RUNS = 700;
-    private static final int CALLS = 500;
+    /** A new text takes up to a hundred and more, and an object has 512 at most. */
+    private static final int CALLS = 360;
 
     public static void main(String[] args) {
         for (int seed = 1; seed <= RUNS; seed++) {
@@ -97,9 +98,9 @@ public final class ModelTest {
     }
 
     private static void oneCall(int seed, Random chance, LotsBid x, FairModel y) {
-        int i = number(chance, 0, Math.max(0, x.count(1) - 1));
-        int j = number(chance, 0, Math.max(0, x.count(1) - 1));
-        int m = number(chance, 0, x.count(0) - 1);
+        int i = number(chance, 0, Math.max(0, y.count(1) - 1));
+        int j = number(chance, 0, Math.max(0, y.count(1) - 1));
+        int m = number(chance, 0, y.count(0) - 1);
         int v = number(chance, 0, 10);
         int two = number(chance, 0, 1);
         int three = number(chance, 0, 2);
@@ -125,7 +126,7 @@ public final class ModelTest {
             case 33:
                 if (chance.nextInt(10) == 0) {
                     boolean greatest = chance.nextBoolean();
-                    int n = number(chance, -1, x.count(0) - 1);
+                    int n = number(chance, -1, y.count(0) - 1);
                     CHECK.due(name + n + greatest, x.rest(n, greatest), y.rest(n, greatest));
                 }
                 break;
@@ -136,7 +137,7 @@ public final class ModelTest {
                 CHECK.due(name, x.seen(m, v), y.seen(m, v));
                 break;
             case 41:
-                int most = Math.max(0, x.master(m, 2));
+                int most = Math.max(0, y.master(m, 2));
                 CHECK.due(name, x.seen(m, most), y.seen(m, most));
                 break;
             case 42: CHECK.due(name, x.forget(), y.forget()); break;
