@@ -429,6 +429,11 @@ public final class LotsBid {
             return true;
         }
 
+        /** The step, 1 at the least, so that every row of calls can be seen to end. */
+        int stride() {
+            return Math.max(1, law[STEP]);
+        }
+
         int boundOf(int i, int m) {
             int plain = Math.min(want[i][m], law[i]);
             switch (kind[i]) {
@@ -573,13 +578,13 @@ public final class LotsBid {
                     callFromBelow(plan, m);
                 } else {
                     // Sealed bids are served as by calls from above that pass no year over.
-                    callFromAbove(plan, m, plan.law[CALLS] == ABOVE ? plan.law[STEP] : 1);
+                    callFromAbove(plan, m, plan.law[CALLS] == ABOVE ? plan.stride() : 1);
                 }
             }
         }
 
         private void callFromBelow(Plan plan, int m) {
-            int step = plan.law[STEP];
+            int step = plan.stride();
             int p = 1;
             while (p <= MOST_YEARS && howManyIn(plan, p) > plan.room[m]) {
                 p += step;
@@ -694,7 +699,7 @@ public final class LotsBid {
             int mine = plan.boundOf(i, m);
             int p = 1;
             while (p <= lastCall[m] && p <= mine) {
-                p += plan.law[STEP];
+                p += plan.stride();
             }
             return p;
         }
@@ -703,7 +708,7 @@ public final class LotsBid {
             if (hadGotAnother(i, m)) {
                 return 0;
             }
-            return Math.max(0, firstCallOut(plan, i, m) - plan.law[STEP]);
+            return Math.max(0, firstCallOut(plan, i, m) - plan.stride());
         }
 
         int spanTo(Plan plan, int i, int m) {

@@ -31,6 +31,7 @@ public final class EdgeGameTest {
         jointByWantsAlone();
         payWithoutHim();
         payOfNobody();
+        oneFairBehindAnother();
         nothingChanges();
         CHECK.close();
     }
@@ -318,6 +319,33 @@ public final class EdgeGameTest {
         pays("room is left", oneMaster(3, 9, 8), 0, 0);
         pays("nothing is wanted", oneMaster(1, 0, 0), 0, 0);
         pays("who has none", oneMaster(1, 1, 2, 3, 4, 5), 0, 0, 0, 0, 4);
+    }
+
+    private static void layAnew(LotsBid x, String text) {
+        x.wipe();
+        Check.writeText(x, text);
+        x.lay();
+    }
+
+    /** What was found for an earlier, larger fair does not count for the next one. */
+    private static void oneFairBehindAnother() {
+        String large = "m3;m3;m3;l9,0;l9,0;l9,0;l9,0;l9,0;w0,0,10;w1,0,10;w2,1,10;w3,1,10;w4,2,10;";
+        LotsBid x = Check.laid(large);
+        rest("the large one", x, false, 0, 0, 0);
+        joint("the large one", x, 50, 0, 0, 1, 1, 2);
+        layAnew(x, "m1;l1,0;l1,0;w0,0,6;w1,0,6;");
+        rest("least, more than ahead", x, false, 6);
+        joint("the first of two, behind five", x, 6, 0, NONE);
+        pays("behind five", x, 6, 0);
+        layAnew(x, "m1;m1;l1,0;l1,0;w0,0,5;w0,1,5;w1,0,5;w1,1,5;");
+        joint("the first of two ways", x, 10, 0, 1);
+        rest("greatest", x, true, 5, 5);
+        layAnew(x, "m1;l1,0;w0,0,2;");
+        rest("greatest, less than ahead", x, true, 2);
+        lie("alone", x, 0, 1, 0);
+        layAnew(x, large);
+        rest("the large one again", x, false, 0, 0, 0);
+        game("the large one", x, 4, 0, 100, 1, 1);
     }
 
     /** To ask for lies, games, years at rest, the joint way or pay changes nothing. */

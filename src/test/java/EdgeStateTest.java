@@ -136,6 +136,46 @@ public final class EdgeStateTest {
             due("undo", x.undo(), left);
         }
         laws("the calls stay, the step does not", x, 8, 5, 2, 1);
+        undoTheLastEightOfAllKinds();
+    }
+
+    /** Behind any number of changes of all kinds, each of the last 8 is undone as what it was. */
+    private static void undoTheLastEightOfAllKinds() {
+        for (int many = 8; many <= 20; many++) {
+            LotsBid x = new LotsBid();
+            int[][] then = new int[many + 1][];
+            then[0] = new int[] {8, 5, 0, 1};
+            for (int k = 1; k <= many; k++) {
+                then[k] = then[k - 1].clone();
+                change(x, then[k], k);
+            }
+            for (int k = many - 1; k >= many - 8; k--) {
+                due("undo to " + k + " of " + many, x.undo(), k - many + 8);
+                laws("as behind " + k + " of " + many, x, then[k][0], then[k][1], then[k][2], then[k][3]);
+            }
+            due("no more than eight of " + many, x.undo(), NO);
+        }
+    }
+
+    /** A limit, the step, the other limit, the calls, in turns. */
+    private static void change(LotsBid x, int[] laws, int k) {
+        switch (k % 4) {
+            case 0:
+                laws[2] = (laws[2] + 1) % 3;
+                x.calls(laws[2]);
+                break;
+            case 1:
+                laws[0] = 1 + laws[0] % 10;
+                x.limit(0, laws[0]);
+                break;
+            case 2:
+                laws[3] = 1 + laws[3] % 3;
+                x.step(laws[3]);
+                break;
+            default:
+                laws[1] = 1 + laws[1] % 10;
+                x.limit(1, laws[1]);
+        }
     }
 
     /** "such by which nothing becomes another, too" */
@@ -515,6 +555,12 @@ public final class EdgeStateTest {
         span("the one behind", x, 0, 2, 0, 10);
         span("who gets one behind", x, 1, 1, 9, 9);
         span("who gets the last", x, 1, 2, 1, 10);
+        // Whether he would have been in there or not.
+        LotsBid nothing = Check.laid("m1;m1;l9,0;l9,0;l9,0;w0,0,9;w1,1,9;w2,1,9;w0,1,3;");
+        span("a bound below the last p", nothing, 0, 1, 0, 10);
+        nothing.limit(0, 1);
+        span("a bound of 1", nothing, 0, 1, 0, 10);
+        span("a bound of nothing", Check.laid("m1;m1;l9,0;w0,0,9;"), 0, 1, 0, 10);
     }
 
     /** "by THE FAIR from BELOW with the STEP": whatever the calls are. */

@@ -2,16 +2,16 @@ import java.util.ArrayList;
 import java.util.List;
 
 /**
- * "BAD: a number is none that is told .. Of several the first in this order; nothing changes then.": each number of each
- * call just inside, just outside and far outside, in fairs of all sizes, with nothing there and with all places taken.
+ * "BAD: a number is none that is told .. Of several the first in this order; nothing changes then.": each number of
+ * each call just inside, just outside and far outside, with nothing there, something, and all places taken.
  */
 public final class RefusalTest {
     private static final Check CHECK = new Check("RefusalTest");
     private static final Twins TWINS = new Twins(CHECK);
     private static final int BAD = -1, NO = -2, FULL = -3, NONE = -4;
     /** Some would be within if only their lowest byte or two were looked at. */
-    private static final int[] FAR = {Integer.MIN_VALUE, Integer.MIN_VALUE + 1, -65536, -65535, -256, -255, -100, -11, -4, -3,
-        100, 255, 256, 257, 65535, 65536, 65537, 1 << 24, 1 << 30, Integer.MAX_VALUE - 1, Integer.MAX_VALUE};
+    private static final int[] FAR = {Integer.MIN_VALUE, Integer.MIN_VALUE + 1, -65536, -65535, -256, -255, -100, -11,
+        -4, -3, 100, 255, 256, 257, 65535, 65536, 65537, 1 << 24, 1 << 30, Integer.MAX_VALUE - 1, Integer.MAX_VALUE};
     private static final long BYTES = 0x6D313B6C312C303BL;
 
     interface Asked {
@@ -64,7 +64,8 @@ public final class RefusalTest {
 
     /** All places taken: masters, lads, bytes, seen, undone, kept. */
     private static LotsBid most() {
-        StringBuilder text = new StringBuilder("m3;m2;m1;l10,0;l9,1;l8,2;l7,3;l6,0;w0,0,9;w1,1,8;w2,2,7;w3,0,6;w4,1,5;c1;s2;");
+        StringBuilder text = new StringBuilder("m3;m2;m1;l10,0;l9,1;l8,2;l7,3;l6,0;");
+        text.append("w0,0,9;w1,1,8;w2,2,7;w3,0,6;w4,1,5;c1;s2;");
         while (text.length() < 300) {
             text.append(text.length() % 3 == 0 ? "c1;" : "c01;");
         }
